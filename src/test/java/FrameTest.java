@@ -60,6 +60,16 @@ public final class FrameTest {
         Kit.same("four components", x.look(1), 192);
         Kit.no("193 and more", x.frame(49, 64, 4, 0));
         Kit.no("193 and more", x.frame(64, 49, 4, 255));
+        // Half as many units, with five, six and seven blocks each.
+        Kit.yes("H of component 3", x.frame(64, 64, 4, 0b01_00_00_00));
+        Kit.yes("V of component 3", x.frame(64, 64, 4, 0b10_00_00_00));
+        Kit.yes("H of 2 and 3", x.frame(64, 64, 4, 0b01_01_00_00));
+        Kit.yes("V of 2 and 3", x.frame(64, 64, 4, 0b10_10_00_00));
+        Kit.same("192 blocks", x.look(1), 192);
+        Kit.no("H of 1 to 3", x.frame(64, 64, 4, 0b01_01_01_00));
+        Kit.no("V of 1 to 3", x.frame(64, 64, 4, 0b10_10_10_00));
+        Kit.no("H of 0 to 2", x.frame(64, 64, 4, 0b00_01_01_01));
+        Kit.no("V of 0 to 2", x.frame(64, 64, 4, 0b00_10_10_10));
     }
 
     private static void wrongOnes() {

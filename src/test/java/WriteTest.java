@@ -264,6 +264,24 @@ public final class WriteTest {
         String run60 = Kit.other(64) + "0000" + Kit.repeat(held60, 16);
         Kit.writes("runs of sixteen", x, Kit.pack(run60 + run60));
         Kit.same("their words", x.tally(), 2);
+        oneHeldBitTooMany();
+    }
+
+    private static void oneHeldBitTooMany() {
+        ScanCoder x = coderWithOldOnes();
+        x.scan(1, 1, 63, 1, 0);
+        // 14 blocks have 882 bits; the next one keeps 18, then 19 of its own.
+        for (int k = 20; k <= 63; k++) {
+            Kit.yes("set", x.set(0, 14, k, 0));
+        }
+        Kit.same("901 bits: 15, 15 and 2 blocks", x.tally(), 3);
+        Kit.same("15, 15", x.often(4, 48), 2);
+        Kit.same("2", x.often(4, 16), 1);
+        Kit.yes("set", x.set(0, 14, 19, 0));
+        Kit.same("900 bits: 16 and 16 blocks, or 15 and 1", x.tally(), 3);
+        Kit.same("16", x.often(4, 64), 1);
+        Kit.same("15", x.often(4, 48), 1);
+        Kit.same("1", x.often(4, 0), 1);
     }
 
     private static void restarts() {
