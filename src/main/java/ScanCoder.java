@@ -1011,7 +1011,9 @@ public final class ScanCoder {
                     switch (course.kind) {
                         case WHOLE:
                             takeDirect(c, place);
-                            takeOthers(others, place, 1);
+                            if (reader.fault == 0) {
+                                takeOthers(others, place, 1);
+                            }
                             break;
                         case DIRECT:
                             takeDirect(c, place);
@@ -1019,11 +1021,8 @@ public final class ScanCoder {
                         case DIRECT_REFINEMENT:
                             refineDirect(place);
                             break;
-                        case BAND:
-                            takeOthers(others, place, course.first);
-                            break;
                         default:
-                            refineOthers(others, place);
+                            takeOthers(others, place, course.first);
                             break;
                     }
                 }
@@ -1095,11 +1094,9 @@ public final class ScanCoder {
         }
 
         private void takeOthers(Table table, int place, int first) {
-            if (reader.fault != 0) {
-                return;
-            }
-            for (int k = first; k <= course.last; k++) {
-                keep(place + k, 0);
+            boolean refines = course.kind == BAND_REFINEMENT;
+            if (!refines) {
+                clearOthers(place, first);
             }
             int k = first;
             for (int words = 0; words < COEFFICIENTS && k <= course.last && run == 0; words++) {
@@ -1109,6 +1106,8 @@ public final class ScanCoder {
                 }
                 if (endsBand(symbol)) {
                     takeRun(symbol >> 4);
+                } else if (refines) {
+                    k = takeNewOne(symbol, place, k);
                 } else {
                     k = takeOther(symbol, place, k);
                 }
@@ -1118,6 +1117,15 @@ public final class ScanCoder {
             }
             if (run > 0) {
                 run--;
+                if (refines) {
+                    refineRest(place, k);
+                }
+            }
+        }
+
+        private void clearOthers(int place, int first) {
+            for (int k = first; k <= course.last; k++) {
+                keep(place + k, 0);
             }
         }
 
@@ -1147,28 +1155,6 @@ public final class ScanCoder {
                 }
             }
             return k + 1;
-        }
-
-        private void refineOthers(Table table, int place) {
-            int k = course.first;
-            for (int words = 0; words < COEFFICIENTS && k <= course.last && run == 0; words++) {
-                int symbol = reader.takeWord(table);
-                if (symbol == NONE) {
-                    return;
-                }
-                if (endsBand(symbol)) {
-                    takeRun(symbol >> 4);
-                } else {
-                    k = takeNewOne(symbol, place, k);
-                }
-                if (reader.fault != 0) {
-                    return;
-                }
-            }
-            if (run > 0) {
-                refineRest(place, k);
-                run--;
-            }
         }
 
         /** Answers the coefficient behind the one that the symbol leads to. */
