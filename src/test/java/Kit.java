@@ -54,6 +54,45 @@ final class Kit {
         yes("other table", x.make(t));
     }
 
+    /** The draft becomes one of these words (how many of 1, 2, .. bits) and symbols. */
+    static void draft(ScanCoder x, int[] counts, int... symbols) {
+        long[] halves = new long[2];
+        for (int k = 0; k < counts.length; k++) {
+            halves[k / 8] |= (long) counts[k] << 8 * (k % 8);
+        }
+        x.counts(halves[0], halves[1]);
+        for (int i = 0; i < symbols.length; i += 8) {
+            int n = Math.min(8, symbols.length - i);
+            long part = 0;
+            for (int k = 0; k < n; k++) {
+                part = part << 8 | symbols[i + k];
+            }
+            yes("symbols", x.symbols(part, n));
+        }
+    }
+
+    /** A draft that is made the table t: whether it could be. */
+    static boolean table(ScanCoder x, int t, int[] counts, int... symbols) {
+        draft(x, counts, symbols);
+        return x.make(t);
+    }
+
+    /** Symbols 0, 1, .. as many as asked. */
+    static int[] upTo(int many) {
+        int[] all = new int[many];
+        for (int s = 0; s < many; s++) {
+            all[s] = s;
+        }
+        return all;
+    }
+
+    /** Counts that are 0 but for words of one length. */
+    static int[] only(int length, int count) {
+        int[] counts = new int[16];
+        counts[length - 1] = count;
+        return counts;
+    }
+
     /** The word that fillDirect gives a symbol 0 .. 11: the symbol itself, in four bits. */
     static String direct(int s) {
         return binary(s, 4);
