@@ -1,6 +1,6 @@
 /**
  * "What throws, or answers false, NONE or a fault changes nothing": two objects are brought to the same state, one of
- * them is asked for what is refused, and then all that can be seen of both must be the same.
+ * them is asked for what is refused, and then all that the probes see of both must be the same.
  */
 final class Twins {
     /** Calls on an object. */
