@@ -109,7 +109,7 @@ public final class LimitEdgesTest {
                 prepare(x, 5043, 0);
                 x.write();
                 x.give(0x5555, 2);
-                while (x.look(0) < MOST - n + more) {
+                for (int have = x.look(0); have < MOST - n + more; have++) {
                     Kit.yes("give", x.give(0x55, 1));
                 }
                 int have = x.look(0);
@@ -126,7 +126,7 @@ public final class LimitEdgesTest {
         Twins.changesNothing("eight where there is room for seven", x -> {
             prepare(x, 5043, 0);
             x.write();
-            while (x.look(0) < MOST - 7) {
+            for (int have = x.look(0); have < MOST - 7; have++) {
                 x.give(0x55, 1);
             }
         }, x -> {
